@@ -35,6 +35,12 @@ public final class ItemsTest {
         Check.due("a new item is not hidden", rows.item(1, 10), 0);
         Check.due("the hidden one moves up", rows.item(2, 10), 1);
         Check.due("states", rows.count(5), 7);
+
+        FlexRows again = Check.with("10", "20");
+        again.hide(1);
+        again.remove(1);
+        Check.insert(again, 1, "30");
+        Check.due("a new item in place of a hidden one", again.item(1, 10), 0);
     }
 
     private static void insertErrors() {
@@ -188,6 +194,8 @@ public final class ItemsTest {
         Check.due("undo() of set()", rows.undo(), 2);
         Check.due("digest()", rows.digest(), digest);
 
+        undoOfAFullBox();
+
         rows.type('7');
         Check.due("undo()", rows.undo(), 1);
         Check.due("the text stays", rows.count(6), 3);
@@ -196,6 +204,31 @@ public final class ItemsTest {
         Check.due("items", rows.count(0), 0);
         Check.due("undo() of none", rows.undo(), Check.STATE);
         Check.due("undo() of none again", rows.undo(), Check.STATE);
+    }
+
+    /** Each property of each item, and each number of the box, comes back. */
+    private static void undoOfAFullBox() {
+        FlexRows rows = new FlexRows();
+        for (int item = 0; item < 16; item++) {
+            Check.insert(rows, item, item + "grow" + item % 9 + "min" + item + "height9across" + item % 5);
+        }
+        int[] box = {100, 1, 2, 0, 3, 2, 1};
+        for (int what = 0; what < box.length; what++) {
+            rows.set(what, box[what]);
+        }
+        rows.hide(15);
+        long digest = rows.digest();
+        for (int change = 0; change < 8; change++) {
+            rows.remove(15 - change);
+        }
+        for (int change = 0; change < 8; change++) {
+            rows.undo();
+        }
+        Check.due("states", rows.count(5), 0);
+        for (int change = 0; change < 8; change++) {
+            rows.set(0, 100);
+        }
+        Check.due("digest()", rows.digest(), digest);
     }
 
     private static void historyOfEight() {

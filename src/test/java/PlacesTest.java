@@ -143,6 +143,10 @@ public final class PlacesTest {
         Check.lie(rows, 4, 0, 79, 36, 92);
         rows.set(2, 0);
         Check.due("count(3)", rows.count(3), 90);
+        for (int item = 0; item < 4; item++) {
+            rows.hide(item);
+        }
+        Check.due("count(3) of no line", rows.count(3), 0);
     }
 
     private static void covering() {

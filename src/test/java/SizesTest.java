@@ -8,6 +8,8 @@ public final class SizesTest {
         growing();
         growingIsUneven();
         growingWithLimits();
+        smallCorrections();
+        passesAreCountedAnew();
         growingFreezesAtOnce();
         shrinking();
         shrinkingIsUneven();
@@ -140,6 +142,29 @@ public final class SizesTest {
         Check.lie(full, 3, 50, 60);
         Check.lie(full, 7, 2, 1);
         Check.lineTells(full, 4, 190);
+    }
+
+    /** The corrections are +2 and -1, then +1 and 0: one is enough to freeze by. */
+    private static void smallCorrections() {
+        FlexRows least = Check.with("0grow1min102", "0grow1max99", "0grow1");
+        Check.lie(least, 3, 102, 99, 99);
+        Check.lie(least, 7, 1, 2, 2);
+        FlexRows one = Check.with("0grow1min101", "0grow1", "0grow1");
+        Check.lie(one, 3, 101, 99, 100);
+        Check.lie(one, 7, 1, 2, 2);
+        FlexRows less = Check.with("0grow1max99", "0grow1", "0grow1");
+        Check.lie(less, 3, 99, 100, 101);
+        Check.lie(less, 7, 1, 2, 2);
+    }
+
+    private static void passesAreCountedAnew() {
+        FlexRows rows = Check.with("0grow1", "0grow1min180", "0grow1max50");
+        Check.lineTells(rows, 6, 3);
+        rows.change(0, 1, 0);
+        rows.change(1, 1, 0);
+        rows.change(2, 1, 0);
+        Check.lineTells(rows, 6, 0);
+        Check.lie(rows, 7, 0, 0, 0);
     }
 
     private static void growingFreezesAtOnce() {

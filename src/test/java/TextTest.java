@@ -147,6 +147,9 @@ public final class TextTest {
         faulty("1 minn2", 2);
         faulty("1 base2", 2);
         faulty("1 g row2", 2);
+        faulty("1 xrow2", 2);
+        faulty("1growz2", 1);
+        faulty("1growa2", 1);
         for (String word : new String[] {"grow", "shrink", "min", "max", "margin", "rank", "height", "depth", "across"}) {
             faulty("1" + word + "1 " + word + "1", 3 + word.length());
             faulty("1" + word + "1 across2 " + word + "x", word.equals("across") ? 9 : 11 + word.length());
