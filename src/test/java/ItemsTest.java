@@ -219,7 +219,7 @@ public final class ItemsTest {
         rows.hide(15);
         long digest = rows.digest();
         for (int change = 0; change < 8; change++) {
-            rows.remove(15 - change);
+            rows.remove(0);
         }
         for (int change = 0; change < 8; change++) {
             rows.undo();

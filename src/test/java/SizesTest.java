@@ -9,6 +9,7 @@ public final class SizesTest {
         growingIsUneven();
         growingWithLimits();
         smallCorrections();
+        asManyPassesAsItems();
         passesAreCountedAnew();
         growingFreezesAtOnce();
         shrinking();
@@ -155,6 +156,21 @@ public final class SizesTest {
         FlexRows less = Check.with("0grow1max99", "0grow1", "0grow1");
         Check.lie(less, 3, 99, 100, 101);
         Check.lie(less, 7, 1, 2, 2);
+    }
+
+    /** Each pass freezes one item, at its least size; the last one takes what is left. */
+    private static void asManyPassesAsItems() {
+        FlexRows rows = Check.with(
+                "26grow7min32max277", "37grow7min43max21", "0grow9min8max4", "26grow1min27max133",
+                "62grow2min64max385", "137grow1min138max10", "2grow8min9max213", "81grow6min87max69",
+                "16grow8min23max152", "26grow9min36max377", "26grow6min31max162", "14grow3min17max45",
+                "65grow7min337max119", "17grow8min24max25", "22grow9min25max296", "64grow8min94max299");
+        rows.set(0, 999);
+        rows.set(3, 0);
+        Check.lineTells(rows, 6, 16);
+        Check.lineTells(rows, 4, 0);
+        Check.lie(rows, 7, 10, 11, 7, 8, 4, 5, 9, 6, 12, 3, 14, 13, 1, 15, 16, 2);
+        Check.lie(rows, 3, 32, 43, 8, 27, 64, 138, 9, 87, 23, 36, 31, 17, 337, 24, 29, 94);
     }
 
     private static void passesAreCountedAnew() {
