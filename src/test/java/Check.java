@@ -1,3 +1,5 @@
+import java.util.function.IntSupplier;
+
 /** What the tests share: they compare answers, count the wrong ones, and type texts. */
 final class Check {
     static final int NONE = -1001;
@@ -15,6 +17,13 @@ final class Check {
             wrong++;
             System.out.println(call + " answered " + got + ", due is " + want);
         }
+    }
+
+    /** A call that is due to answer an error, and to leave all that can be told as it was. */
+    static void refused(FlexRows rows, String call, int want, IntSupplier made) {
+        long before = rows.digest();
+        due(call, made.getAsInt(), want);
+        due("digest() after " + call, rows.digest(), before);
     }
 
     /** Ends the test: the exit code tells whether an answer was wrong. */
@@ -35,6 +44,24 @@ final class Check {
     static int insert(FlexRows rows, int item, String text) {
         type(rows, text);
         return rows.insert(item);
+    }
+
+    /** Inserts the text into a new object: it is due to be read, with the properties from the base on. */
+    static void reads(String text, int... properties) {
+        FlexRows rows = new FlexRows();
+        due("insert of \"" + text + "\"", insert(rows, 0, text), 1);
+        for (int what = 0; what < properties.length; what++) {
+            due("\"" + text + "\": item(0, " + what + ")", rows.item(0, what), properties[what]);
+        }
+        due("\"" + text + "\": item(0, 10)", rows.item(0, 10), 0);
+    }
+
+    /** Inserts the text into a new object: it is due to be refused for its fault. */
+    static void faulty(String text, int fault) {
+        FlexRows rows = new FlexRows();
+        type(rows, text);
+        refused(rows, "insert of \"" + text + "\"", -2000 - fault, () -> rows.insert(0));
+        due("bytes after a fault", rows.count(6), text.length());
     }
 
     /** A box with one item for each text, in their order. */

@@ -3,8 +3,9 @@
  * each run of the test. Arguments are sensible in most calls, at the ends or senseless in the others.
  */
 public final class ModelTest {
-    private static final int RUNS = 3000;
-    private static final int CALLS = 512;
+    private static final int RUNS = 4000;
+    // What comes after the 512th call is free; the insert of a text may take a hundred.
+    private static final int CALLS = 400;
     private static final String[] WORDS = {
         "grow", "shrink", "min", "max", "margin", "rank", "height", "depth", "across", "grow", "shrink", "min"};
     private static final int[] LOWEST = {0, 0, 0, 0, 0, 0, -9, 1, 0, 0};

@@ -275,12 +275,12 @@ public final class SizesTest {
         FlexRows capped = Check.with("400max100grow1", "50grow1");
         Check.lineTells(capped, 5, 1);
         Check.lie(capped, 3, 100, 200);
-        // Nothing is missing here: the bases are less than the room, the wishes more.
+        // The bases are less than the room, the wishes more: 300 - 250 - 60 - 20 = -30, shared 3 : 1.
         FlexRows lifted = Check.with("10min250", "60max400", "20min1");
         lifted.set(3, 0);
         Check.lineTells(lifted, 5, 0);
         Check.lie(lifted, 3, 250, 38, 12);
-        // The free room of the first pass is below 0, and counts as 0.
+        // 300 - 5 - 90 - 10 = 195 in the first pass, and 300 - 5 - 90 - 200 = 5 in the second one.
         FlexRows over = Check.with("90grow1", "10grow1min200", "5");
         Check.lie(over, 3, 95, 200, 5);
         Check.lie(over, 7, 2, 1, 0);

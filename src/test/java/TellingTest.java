@@ -178,6 +178,9 @@ public final class TellingTest {
         Check.due("digest() of items", rows.digest(), digestOf(rows, "99margin9"));
         rows.hide(2);
         Check.due("digest() with a hidden item", rows.digest(), digestOf(rows, "99margin9"));
+        // An object is used for 512 calls, of which the tellings above have taken many.
+        rows = Check.with("60", text, "200grow3", "99margin9");
+        rows.hide(2);
         Check.type(rows, "~ \0\177");
         Check.due("digest() with a text", rows.digest(), digestOf(rows, "~ \0\177"));
         rows.set(3, 0);

@@ -63,129 +63,129 @@ public final class TextTest {
     }
 
     private static void whatIsNotWritten() {
-        reads("7", 7, 0, 1, 0, 400, 0, 0, 10, 0, 4);
+        Check.reads("7", 7, 0, 1, 0, 400, 0, 0, 10, 0, 4);
     }
 
     private static void whatIsWritten() {
-        reads("1grow2shrink3min4max5margin6rank7height8depth9across0", 1, 2, 3, 4, 5, 6, 7, 8, 9, 0);
-        reads("1across0depth9height8rank7margin6max5min4shrink3grow2", 1, 2, 3, 4, 5, 6, 7, 8, 9, 0);
-        reads("012max007", 12, 0, 1, 0, 7, 0, 0, 10, 0, 4);
+        Check.reads("1grow2shrink3min4max5margin6rank7height8depth9across0", 1, 2, 3, 4, 5, 6, 7, 8, 9, 0);
+        Check.reads("1across0depth9height8rank7margin6max5min4shrink3grow2", 1, 2, 3, 4, 5, 6, 7, 8, 9, 0);
+        Check.reads("012max007", 12, 0, 1, 0, 7, 0, 0, 10, 0, 4);
         FlexRows rows = Check.with("9grow9", "8");
         Check.due("an item does not keep another one's growth", rows.item(1, 1), 0);
     }
 
     private static void blanks() {
-        reads("  12  min  3  rank  -4  ", 12, 0, 1, 3, 400, 0, -4, 10, 0, 4);
-        reads("12min3rank-4", 12, 0, 1, 3, 400, 0, -4, 10, 0, 4);
+        Check.reads("  12  min  3  rank  -4  ", 12, 0, 1, 3, 400, 0, -4, 10, 0, 4);
+        Check.reads("12min3rank-4", 12, 0, 1, 3, 400, 0, -4, 10, 0, 4);
     }
 
     private static void endsOfRanges() {
-        reads("0grow0shrink0min0max0margin0rank-9height1depth0across0", 0, 0, 0, 0, 0, 0, -9, 1, 0, 0);
-        reads("400grow9shrink9min400max400margin20rank9height100depth50across4",
+        Check.reads("0grow0shrink0min0max0margin0rank-9height1depth0across0", 0, 0, 0, 0, 0, 0, -9, 1, 0, 0);
+        Check.reads("400grow9shrink9min400max400margin20rank9height100depth50across4",
                 400, 9, 9, 400, 400, 20, 9, 100, 50, 4);
-        reads("1rank-0", 1, 0, 1, 0, 400, 0, 0, 10, 0, 4);
-        reads("1rank-009", 1, 0, 1, 0, 400, 0, -9, 10, 0, 4);
-        reads("1height001", 1, 0, 1, 0, 400, 0, 0, 1, 0, 4);
+        Check.reads("1rank-0", 1, 0, 1, 0, 400, 0, 0, 10, 0, 4);
+        Check.reads("1rank-009", 1, 0, 1, 0, 400, 0, -9, 10, 0, 4);
+        Check.reads("1height001", 1, 0, 1, 0, 400, 0, 0, 1, 0, 4);
     }
 
     private static void outOfRange() {
-        faulty("401", 0);
-        faulty(" 999", 1);
-        faulty("1grow10", 5);
-        faulty("1shrink10", 7);
-        faulty("1min401", 4);
-        faulty("1max401", 4);
-        faulty("1margin21", 7);
-        faulty("1rank10", 5);
-        faulty("1rank-10", 5);
-        faulty("1rank -010 ", 6);
-        faulty("1height0", 7);
-        faulty("1height000", 7);
-        faulty("1height101", 7);
-        faulty("1depth51", 6);
-        faulty("1across5", 7);
-        faulty("1across 5", 8);
+        Check.faulty("401", 0);
+        Check.faulty(" 999", 1);
+        Check.faulty("1grow10", 5);
+        Check.faulty("1shrink10", 7);
+        Check.faulty("1min401", 4);
+        Check.faulty("1max401", 4);
+        Check.faulty("1margin21", 7);
+        Check.faulty("1rank10", 5);
+        Check.faulty("1rank-10", 5);
+        Check.faulty("1rank -010 ", 6);
+        Check.faulty("1height0", 7);
+        Check.faulty("1height000", 7);
+        Check.faulty("1height101", 7);
+        Check.faulty("1depth51", 6);
+        Check.faulty("1across5", 7);
+        Check.faulty("1across 5", 8);
     }
 
     private static void textsThatEndTooEarly() {
-        faulty("", 0);
-        faulty("   ", 3);
-        faulty("1grow", 5);
-        faulty("1grow  ", 7);
-        faulty("1rank-", 6);
-        faulty("1 min 2 max ", 12);
+        Check.faulty("", 0);
+        Check.faulty("   ", 3);
+        Check.faulty("1grow", 5);
+        Check.faulty("1grow  ", 7);
+        Check.faulty("1rank-", 6);
+        Check.faulty("1 min 2 max ", 12);
     }
 
     private static void bytesThatCannotStand() {
-        faulty("-1", 0);
-        faulty("a", 0);
-        faulty("grow1", 0);
-        faulty("1-", 1);
-        faulty("1 2", 2);
-        faulty("1\t", 1);
-        faulty("1Grow2", 1);
-        faulty("1growX", 5);
-        faulty("1grow max2", 6);
-        faulty("1grow2,", 6);
-        faulty("1grow2 3", 7);
-        faulty("1{", 1);
-        faulty("1`", 1);
-        faulty("1/", 1);
-        faulty("1:", 1);
-        faulty("1\0", 1);
-        faulty("1\177", 1);
+        Check.faulty("-1", 0);
+        Check.faulty("a", 0);
+        Check.faulty("grow1", 0);
+        Check.faulty("1-", 1);
+        Check.faulty("1 2", 2);
+        Check.faulty("1\t", 1);
+        Check.faulty("1Grow2", 1);
+        Check.faulty("1growX", 5);
+        Check.faulty("1grow max2", 6);
+        Check.faulty("1grow2,", 6);
+        Check.faulty("1grow2 3", 7);
+        Check.faulty("1{", 1);
+        Check.faulty("1`", 1);
+        Check.faulty("1/", 1);
+        Check.faulty("1:", 1);
+        Check.faulty("1\0", 1);
+        Check.faulty("1\177", 1);
     }
 
     private static void words() {
-        faulty("1gro2", 1);
-        faulty("1grows2", 1);
-        faulty("1 growth2", 2);
-        faulty("1 gr", 2);
-        faulty("1growgrow2", 1);
-        faulty("1 m2", 2);
-        faulty("1 mi2", 2);
-        faulty("1 minn2", 2);
-        faulty("1 base2", 2);
-        faulty("1 g row2", 2);
-        faulty("1 xrow2", 2);
-        faulty("1growz2", 1);
-        faulty("1growa2", 1);
+        Check.faulty("1gro2", 1);
+        Check.faulty("1grows2", 1);
+        Check.faulty("1 growth2", 2);
+        Check.faulty("1 gr", 2);
+        Check.faulty("1growgrow2", 1);
+        Check.faulty("1 m2", 2);
+        Check.faulty("1 mi2", 2);
+        Check.faulty("1 minn2", 2);
+        Check.faulty("1 base2", 2);
+        Check.faulty("1 g row2", 2);
+        Check.faulty("1 xrow2", 2);
+        Check.faulty("1growz2", 1);
+        Check.faulty("1growa2", 1);
         for (String word : new String[] {"grow", "shrink", "min", "max", "margin", "rank", "height", "depth", "across"}) {
-            faulty("1" + word + "1 " + word + "1", 3 + word.length());
-            faulty("1" + word + "1 across2 " + word + "x", word.equals("across") ? 9 : 11 + word.length());
+            Check.faulty("1" + word + "1 " + word + "1", 3 + word.length());
+            Check.faulty("1" + word + "1 across2 " + word + "x", word.equals("across") ? 9 : 11 + word.length());
         }
     }
 
     private static void fourDigits() {
-        faulty("0001", 3);
-        faulty("4000", 3);
-        faulty("4010", 0);
-        faulty("1min0000", 7);
-        faulty("1grow0009", 8);
-        faulty("1grow0090", 8);
-        faulty("1grow0100", 5);
-        faulty("1rank-0009", 9);
-        faulty("1rank-0100", 5);
-        faulty("1height0001", 7);
-        faulty("1height1000", 10);
-        faulty("1 00001", 2);
+        Check.faulty("0001", 3);
+        Check.faulty("4000", 3);
+        Check.faulty("4010", 0);
+        Check.faulty("1min0000", 7);
+        Check.faulty("1grow0009", 8);
+        Check.faulty("1grow0090", 8);
+        Check.faulty("1grow0100", 5);
+        Check.faulty("1rank-0009", 9);
+        Check.faulty("1rank-0100", 5);
+        Check.faulty("1height0001", 7);
+        Check.faulty("1height1000", 10);
+        Check.faulty("1 00001", 2);
     }
 
     private static void minus() {
-        faulty("1rank--1", 6);
-        faulty("1rank- 1", 6);
-        faulty("1rank-a", 6);
-        faulty("1rank1-", 6);
-        faulty("1min-1", 4);
-        faulty("1depth-0", 6);
+        Check.faulty("1rank--1", 6);
+        Check.faulty("1rank- 1", 6);
+        Check.faulty("1rank-a", 6);
+        Check.faulty("1rank1-", 6);
+        Check.faulty("1min-1", 4);
+        Check.faulty("1depth-0", 6);
     }
 
     private static void theLeastFaultCounts() {
-        faulty("401 foo 402", 0);
-        faulty("1 foo 402", 2);
-        faulty("1 min 402 foo", 6);
-        faulty("1 min 4 min 402 ?", 8);
-        faulty("1 grow99?", 6);
+        Check.faulty("401 foo 402", 0);
+        Check.faulty("1 foo 402", 2);
+        Check.faulty("1 min 402 foo", 6);
+        Check.faulty("1 min 4 min 402 ?", 8);
+        Check.faulty("1 grow99?", 6);
     }
 
     /** A byte behind a base begins a word, or is a digit or a blank; any other is the fault. */
@@ -201,22 +201,5 @@ public final class TextTest {
             int wanted = fits && letter != ' ' ? 1 : letter == ' ' ? -2001 : -2000;
             Check.due("insert of byte " + letter, rows.insert(0), wanted);
         }
-    }
-
-    private static void reads(String text, int... properties) {
-        FlexRows rows = new FlexRows();
-        Check.due("insert of \"" + text + "\"", Check.insert(rows, 0, text), 1);
-        for (int what = 0; what < properties.length; what++) {
-            Check.due("\"" + text + "\": item(0, " + what + ")", rows.item(0, what), properties[what]);
-        }
-        Check.due("\"" + text + "\": item(0, 10)", rows.item(0, 10), 0);
-    }
-
-    private static void faulty(String text, int fault) {
-        FlexRows rows = new FlexRows();
-        Check.due("insert of \"" + text + "\"", Check.insert(rows, 0, text), -2000 - fault);
-        Check.due("items after a fault", rows.count(0), 0);
-        Check.due("states after a fault", rows.count(5), 0);
-        Check.due("bytes after a fault", rows.count(6), text.length());
     }
 }
