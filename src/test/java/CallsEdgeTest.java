@@ -1,3 +1,5 @@
+import java.math.BigInteger;
+import java.util.Arrays;
 import java.util.function.IntUnaryOperator;
 
 /** 'Changes', and each promise: the ranges of its arguments, and what it returns, on both sides of each boundary. */
@@ -12,6 +14,9 @@ public final class CallsEdgeTest {
         undoRemovesTheLatest();
         undoRestoresEachChange();
         theTextIsNoPartOfTheState();
+        errorsDropNoState();
+        tellingDropsNoState();
+        fiveHundredAndTwelveCalls();
 
         aNewObject();
         type();
@@ -51,7 +56,7 @@ public final class CallsEdgeTest {
             Check.refused(rows, call + " of " + value, Check.BAD, () -> made.applyAsInt(value));
         }
         for (int value : new int[] {low, (low + high) / 2, high}) {
-            Check.due(call + " of " + value + " is refused", made.applyAsInt(value) == Check.BAD ? 1 : 0, 0);
+            Check.holds(call + " of " + value + " is not refused", made.applyAsInt(value) != Check.BAD);
         }
     }
 
@@ -197,6 +202,74 @@ public final class CallsEdgeTest {
         Check.due("bytes", rows.count(6), 1);
         Check.due("insert(0) of the text that stayed", rows.insert(0), 1);
         Check.due("item(0, 0)", rows.item(0, 0), 5);
+    }
+
+    /** 'A call that returns an error changes nothing': nor does it drop a state of a history that is full. */
+    private static void errorsDropNoState() {
+        String[] texts = new String[16];
+        Arrays.fill(texts, "7");
+        FlexRows rows = fullHistory(Check.with(texts));
+        Check.due("insert(0) into 16", rows.insert(0), Check.FULL);
+        Check.due("insert(17)", rows.insert(17), Check.BAD);
+        Check.due("remove(16)", rows.remove(16), Check.BAD);
+        Check.due("move(0, 16)", rows.move(0, 16), Check.BAD);
+        Check.due("move(16, 0)", rows.move(16, 0), Check.BAD);
+        Check.due("change(0, 0, 401)", rows.change(0, 0, 401), Check.BAD);
+        Check.due("change(0, 10, 0)", rows.change(0, 10, 0), Check.BAD);
+        Check.due("change(16, 0, 0)", rows.change(16, 0, 0), Check.BAD);
+        Check.due("hide(16)", rows.hide(16), Check.BAD);
+        Check.due("set(0, 19)", rows.set(0, 19), Check.BAD);
+        Check.due("set(7, 0)", rows.set(7, 0), Check.BAD);
+        rows.type('?');
+        Check.due("insert(0) of a fault", rows.insert(0), -2001);
+        eightWidths(rows);
+    }
+
+    /** 'what is told; nothing changes', nor is a text a change: the history stays as full as it was. */
+    private static void tellingDropsNoState() {
+        FlexRows rows = fullHistory(Check.with("10", "20", "400"));
+        rows.item(0, 11);
+        rows.lies(1, 2);
+        rows.ordered(2);
+        rows.line(0, 4);
+        rows.at(5, 5);
+        rows.leastWidth(0, 1);
+        rows.leastWidth(1, 0);
+        rows.count(5);
+        rows.digest();
+        rows.clear();
+        rows.type('7');
+        eightWidths(rows);
+    }
+
+    /** Nine changes: the history holds the widths from 100 to 107, and the box has 108. */
+    private static FlexRows fullHistory(FlexRows rows) {
+        for (int width = 100; width <= 108; width++) {
+            rows.set(0, width);
+        }
+        return rows;
+    }
+
+    private static void eightWidths(FlexRows rows) {
+        Check.due("the width", rows.count(7), 108);
+        for (int left = 7; left >= 0; left--) {
+            Check.due("undo()", rows.undo(), left);
+            Check.due("the width", rows.count(7), 100 + left);
+        }
+        Check.due("undo() of none", rows.undo(), Check.STATE);
+    }
+
+    /** 'An object is used for at most 512 calls': the last ones are answered as the first ones are. */
+    private static void fiveHundredAndTwelveCalls() {
+        FlexRows rows = new FlexRows();
+        Check.due("call 1", rows.type('9'), 1);
+        Check.due("call 2", rows.insert(0), 1);
+        for (int call = 3; call < 511; call += 2) {
+            Check.due("call " + call, rows.change(0, 0, call % 400), call == 3 ? 9 : (call - 2) % 400);
+            Check.due("call " + (call + 1), rows.lies(0, 3), Math.min(call % 400, 300));
+        }
+        Check.due("call 511", rows.undo(), 7);
+        Check.due("call 512", rows.item(0, 0), 507 % 400);
     }
 
     // ---- Promises 1 to 3
@@ -611,9 +684,9 @@ public final class CallsEdgeTest {
         }
         for (int n = 1; n <= 3; n++) {
             rows.set(0, wanted[n - 1]);
-            Check.due("lines in " + wanted[n - 1], rows.count(2) <= n ? 1 : 0, 1);
+            Check.holds("at most " + n + " lines in " + wanted[n - 1], rows.count(2) <= n);
             rows.set(0, wanted[n - 1] - 1);
-            Check.due("lines in one less", rows.count(2) <= n ? 1 : 0, 0);
+            Check.holds("more than " + n + " lines in one less", rows.count(2) > n);
         }
         rows.hide(2);
         Check.due("leastWidth(0, 1) with a hidden item", rows.leastWidth(0, 1), 126);
@@ -746,22 +819,22 @@ public final class CallsEdgeTest {
         Check.due("digest() of two items", rows.digest(), hash);
         rows.type('?');
         rows.undo();
-        Check.due("another text and no hidden item are told", rows.digest() == hash ? 1 : 0, 0);
+        Check.holds("another text and no hidden item are told", rows.digest() != hash);
     }
 
     /** '(long arithmetic with overflow)': the sum is too great for a long when there are items. */
     private static void digestOverflows() {
         FlexRows rows = Check.with("1", "2");
-        java.math.BigInteger sum = java.math.BigInteger.valueOf(148);
+        BigInteger sum = BigInteger.valueOf(148);
         int[] numbers = {
             2, 0, 1, 10, 3, 2, 1, 300, 0, 0, 1, 0, 0, 0,
             1, 0, 1, 0, 400, 0, 0, 10, 0, 4, 0, 1, 0, 0, 0, 1, 0, 10, 0, 0,
             2, 0, 1, 0, 400, 0, 0, 10, 0, 4, 0, 2, 0, 1, 1, 2, 0, 10, 0, 0,
             2, 0, 0, 10, 297, 1, 0, 3, 0, 1, '2'};
         for (int number : numbers) {
-            sum = sum.multiply(java.math.BigInteger.valueOf(31)).add(java.math.BigInteger.valueOf(number));
+            sum = sum.multiply(BigInteger.valueOf(31)).add(BigInteger.valueOf(number));
         }
-        Check.due("the sum is too great for a long", sum.bitLength() > 64 ? 1 : 0, 1);
+        Check.holds("the sum is too great for a long", sum.bitLength() > 64);
         Check.due("digest()", rows.digest(), sum.longValue());
     }
 

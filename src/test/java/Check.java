@@ -19,6 +19,11 @@ final class Check {
         }
     }
 
+    /** What is due to be so. */
+    static void holds(String what, boolean so) {
+        due(what, so ? 1 : 0, 1);
+    }
+
     /** A call that is due to answer an error, and to leave all that can be told as it was. */
     static void refused(FlexRows rows, String call, int want, IntSupplier made) {
         long before = rows.digest();

@@ -1,61 +1,69 @@
 import java.lang.reflect.Constructor;
 import java.lang.reflect.Field;
+import java.lang.reflect.Member;
 import java.lang.reflect.Method;
 import java.lang.reflect.Modifier;
 import java.util.Set;
 import java.util.TreeSet;
 
-/** The public face: every member of the document's face, and no other that is not private. */
+/** The public face: every member of the document's face, just as it is written there, and no other one. */
 public final class FaceTest {
+    private static final Set<String> DUE = Set.of(
+            "public static final int NONE", "public static final int BAD",
+            "public static final int STATE", "public static final int FULL",
+            "public FlexRows()",
+            "public int type(int)", "public int clear()", "public int insert(int)", "public int remove(int)",
+            "public int move(int,int)", "public int change(int,int,int)", "public int hide(int)",
+            "public int set(int,int)", "public int undo()", "public int item(int,int)",
+            "public int lies(int,int)", "public int ordered(int)", "public int line(int,int)",
+            "public int at(int,int)", "public int leastWidth(int,int)", "public int count(int)",
+            "public long digest()");
+
     public static void main(String[] args) {
+        constants();
+        theClass();
+        members();
+        Check.finish();
+    }
+
+    private static void constants() {
         Check.due("NONE", FlexRows.NONE, -1001);
         Check.due("BAD", FlexRows.BAD, -1002);
         Check.due("STATE", FlexRows.STATE, -1003);
         Check.due("FULL", FlexRows.FULL, -1004);
-        Check.due("final", Modifier.isFinal(FlexRows.class.getModifiers()) ? 1 : 0, 1);
-        Check.due("public", Modifier.isPublic(FlexRows.class.getModifiers()) ? 1 : 0, 1);
-
-        Set<String> due = new TreeSet<>(Set.of(
-                "NONE", "BAD", "STATE", "FULL", "new()",
-                "int type(int)", "int clear()", "int insert(int)", "int remove(int)",
-                "int move(int,int)", "int change(int,int,int)", "int hide(int)", "int set(int,int)",
-                "int undo()", "int item(int,int)", "int lies(int,int)", "int ordered(int)",
-                "int line(int,int)", "int at(int,int)", "int leastWidth(int,int)", "int count(int)",
-                "long digest()"));
-        Set<String> found = members();
-        if (!found.equals(due)) {
-            System.out.println("the face is " + found + ", due is " + due);
-        }
-        Check.due("the face is the document's", found.equals(due) ? 1 : 0, 1);
-        Check.finish();
     }
 
-    private static Set<String> members() {
+    /** 'public final class FlexRows', of no kind but its own, and what is inside it is not seen from outside. */
+    private static void theClass() {
+        Check.due("public final class", FlexRows.class.getModifiers(), Modifier.PUBLIC | Modifier.FINAL);
+        Check.holds("the class has no package", FlexRows.class.getPackageName().isEmpty());
+        Check.holds("the class extends no other one", FlexRows.class.getSuperclass() == Object.class);
+        Check.due("the interfaces of the class", FlexRows.class.getInterfaces().length, 0);
+        Check.due("the classes inside that are seen from outside", FlexRows.class.getClasses().length, 0);
+    }
+
+    private static void members() {
         Set<String> found = new TreeSet<>();
         for (Field field : FlexRows.class.getDeclaredFields()) {
-            if (!Modifier.isPrivate(field.getModifiers()) && !field.isSynthetic()) {
-                found.add(field.getName());
-            }
+            enter(found, field, field.toString());
         }
         for (Constructor<?> made : FlexRows.class.getDeclaredConstructors()) {
-            if (!Modifier.isPrivate(made.getModifiers()) && !made.isSynthetic()) {
-                found.add("new(" + names(made.getParameterTypes()) + ")");
-            }
+            enter(found, made, made.toGenericString());
         }
         for (Method method : FlexRows.class.getDeclaredMethods()) {
-            if (!Modifier.isPrivate(method.getModifiers()) && !method.isSynthetic()) {
-                found.add(method.getReturnType() + " " + method.getName()
-                        + "(" + names(method.getParameterTypes()) + ")");
-            }
+            enter(found, method, method.toGenericString());
         }
-        return found;
+        for (String member : found) {
+            Check.holds("a member of the face is " + member, DUE.contains(member));
+        }
+        for (String member : DUE) {
+            Check.holds("the face has " + member, found.contains(member));
+        }
     }
 
-    private static String names(Class<?>[] types) {
-        StringBuilder all = new StringBuilder();
-        for (Class<?> type : types) {
-            all.append(all.length() == 0 ? "" : ",").append(type);
+    private static void enter(Set<String> found, Member member, String written) {
+        if (!Modifier.isPrivate(member.getModifiers()) && !member.isSynthetic()) {
+            found.add(written.replace("FlexRows.", "").replace(", ", ","));
         }
-        return all.toString();
     }
 }

@@ -28,6 +28,7 @@ public final class LayoutEdgeTest {
         forgottenSizes();
         aLeastSizeThatIsTheGreatestToo();
         eachLineSharesAlone();
+        theGreatestShares();
 
         marginsFromTheStart();
         aRestOnBothSidesOfNothing();
@@ -460,6 +461,31 @@ public final class LayoutEdgeTest {
         Check.lie(rows, 0, 0, 1, 1, 2);
         Check.lie(rows, 3, 200, 160, 130, 300);
         Check.lineTells(rows, 4, 100, 0, 0);
+    }
+
+    /** 16 items of the greatest weight: 5401 * 57600 / 57600 is missing at last, and each share is 337 or 338. */
+    private static void theGreatestShares() {
+        FlexRows rows = new FlexRows();
+        Check.type(rows, "400shrink9");
+        for (int item = 0; item < 16; item++) {
+            rows.insert(item);
+        }
+        rows.set(3, 0);
+        rows.set(0, 999);
+        for (int item = 0; item < 16; item++) {
+            int less = 5401 * (item + 1) / 16 - 5401 * item / 16;
+            Check.due("lies(" + item + ", 3)", rows.lies(item, 3), 400 - less);
+        }
+        Check.lineTells(rows, 4, 0);
+        // No room at all: 20 - 15 * 40 - 16 * 2 * 20 = -1220, and 7620 is missing.
+        rows.set(1, 40);
+        rows.set(0, 20);
+        for (int item = 0; item < 16; item++) {
+            rows.change(item, 5, 20);
+        }
+        Check.due("lies(15, 3) without room", rows.lies(15, 3), 0);
+        Check.lineTells(rows, 4, -1220);
+        Check.lineTells(rows, 6, 1);
     }
 
     // ---- Along the line

@@ -85,7 +85,8 @@ public final class PlacesTest {
 
     /** The line is 41 high; what is left above 20 in the middle is 21 / 2. */
     private static void waysAcross() {
-        FlexRows rows = Check.with("1height41", "1height20across0", "1height20across1", "1height20across2", "1height20");
+        FlexRows rows = Check.with("1height41", "1height20across0", "1height20across1", "1height20across2",
+                "1height20");
         Check.lie(rows, 4, 0, 0, 21, 10, 0);
         rows.set(5, 1);
         Check.lie(rows, 4, 0, 0, 21, 10, 21);
@@ -101,7 +102,8 @@ public final class PlacesTest {
     }
 
     private static void byBaseLines() {
-        FlexRows rows = Check.with("1height30depth5across3", "1height20depth10across3", "1height12across3", "1height33");
+        FlexRows rows = Check.with("1height30depth5across3", "1height20depth10across3", "1height12across3",
+                "1height33");
         // Above the base line: 25, 10, 12; below it: 5, 10, 0: 25 + 10 = 35.
         Check.lineTells(rows, 3, 35);
         Check.lie(rows, 4, 0, 15, 13, 0);

@@ -106,7 +106,7 @@ public final class TellingTest {
             rows.set(0, wanted[n - 1]);
             Check.due("lines at it", rows.count(2), n);
             rows.set(0, wanted[n - 1] - 1);
-            Check.due("lines below it", rows.count(2) > n ? 1 : 0, 1);
+            Check.holds("more than " + n + " lines below it", rows.count(2) > n);
         }
         rows.set(3, 0);
         Check.due("leastWidth(0, 1) without wrapping", rows.leastWidth(0, 1), 20);

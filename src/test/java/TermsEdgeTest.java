@@ -474,7 +474,8 @@ public final class TermsEdgeTest {
     private static void theFaultOfLetters() {
         String[] letters = {"a", "z", "g", "gro", "grows", "growa", "growz", "xrow", "xgrow", "growgrow",
             "growmax", "mi", "minn", "nin", "ma", "maxx", "mix", "man", "marg", "ran", "ranks",
-            "heigh", "heights", "dept", "depths", "acros", "acrosss", "base", "shrin", "shrinks", "marginal", "abcdefghijklmnopqrstuvwxyz"};
+            "heigh", "heights", "dept", "depths", "acros", "acrosss", "base", "shrin", "shrinks", "marginal",
+            "abcdefghijklmnopqrstuvwxyz"};
         for (String word : letters) {
             Check.faulty("5" + word + "1", 1);
             Check.faulty("5  " + word, 3);

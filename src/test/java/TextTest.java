@@ -150,7 +150,8 @@ public final class TextTest {
         Check.faulty("1 xrow2", 2);
         Check.faulty("1growz2", 1);
         Check.faulty("1growa2", 1);
-        for (String word : new String[] {"grow", "shrink", "min", "max", "margin", "rank", "height", "depth", "across"}) {
+        String[] words = {"grow", "shrink", "min", "max", "margin", "rank", "height", "depth", "across"};
+        for (String word : words) {
             Check.faulty("1" + word + "1 " + word + "1", 3 + word.length());
             Check.faulty("1" + word + "1 across2 " + word + "x", word.equals("across") ? 9 : 11 + word.length());
         }
